@@ -124,7 +124,7 @@ public final class SandCars {
             case 0:
                 return mine.kind[rope];
             case 1:
-                return mine.pull(rope);
+                return mine.pull[rope];
             case 2:
                 return mine.glass[rope];
             case 3:
@@ -284,7 +284,7 @@ public final class SandCars {
         private int ropes;
         private final int[] kind = new int[ROPES];
         private final int[] load = new int[ROPES];
-        private final int[] empty = new int[ROPES];
+        private final int[] pull = new int[ROPES];
         private final int[] glass = new int[ROPES];
         private final int[] slips = new int[ROPES];
         private final int[] rule = new int[ROPES];
@@ -301,19 +301,15 @@ public final class SandCars {
             ropes = 0;
         }
 
-        private int pull(int rope) {
-            return load[rope] - empty[rope];
-        }
-
         private boolean strong(int rope) {
-            return pull(rope) >= needs;
+            return pull[rope] >= needs;
         }
 
         private int pace(int rope, int at) {
             boolean upper = at < slope / 2;
             switch (kind[rope]) {
                 case PLAIN:
-                    return pull(rope) >= fast ? 2 : 1;
+                    return pull[rope] >= fast ? 2 : 1;
                 case MEN:
                     return 1;
                 case WATER:
@@ -330,14 +326,16 @@ public final class SandCars {
         /** Whether two cars meet, of each of which it is told where it was and where it is now. */
         private boolean meet(int was, int now, int otherWas, int otherNow) {
             int between = now - otherNow;
-            boolean met;
-            if (between == 0) {
-                met = now != 0 && now != slope;
-            } else {
-                int ahead = was - otherWas;
-                met = between < 0 && ahead > 0 || between > 0 && ahead < 0;
+            int ahead = was - otherWas;
+            boolean together = between == 0 && now != 0 && now != slope;
+            boolean past = between > 0 && ahead < 0 || between < 0 && ahead > 0;
+            if (!together && !past) {
+                return false;
             }
-            return met && !(inSiding(was) && inSiding(now) && inSiding(otherWas) && inSiding(otherNow));
+            int from = slope / 2 - siding;
+            int to = slope / 2 + siding;
+            return was < from || was > to || now < from || now > to
+                    || otherWas < from || otherWas > to || otherNow < from || otherNow > to;
         }
 
         private int loads(int arrived) {
@@ -541,7 +539,7 @@ public final class SandCars {
             if (!isNumber(0, 98)) {
                 return false;
             }
-            mine.empty[rope] = value;
+            mine.pull[rope] = mine.load[rope] - value;
             next();
             if (!glassPart(mine, rope)) {
                 return false;
@@ -616,8 +614,10 @@ public final class SandCars {
         private static final int LEFT_BITS = 6;
 
         private final int[] at = new int[ROPES];
-        private final int[] was = new int[ROPES];
         private final int[] left = new int[ROPES];
+        // Of each rope the loaded car, then the empty one: where it was ahead of a second (NONE: it didn't move) and is now.
+        private final int[] was = new int[2 * ROPES];
+        private final int[] now = new int[2 * ROPES];
         private int last = NONE;
         private int arrived = 0;
         private int started = 0;
@@ -625,7 +625,6 @@ public final class SandCars {
         private void first(Mine mine) {
             for (int r = 0; r < ROPES; r++) {
                 at[r] = NONE;
-                was[r] = NONE;
                 left[r] = r < mine.ropes ? mine.glass[r] : 0;
             }
             last = NONE;
@@ -655,46 +654,34 @@ public final class SandCars {
 
         private void goOn(Mine mine) {
             for (int r = 0; r < mine.ropes; r++) {
-                was[r] = at[r];
-                if (at[r] != NONE) {
-                    at[r] = Math.min(mine.slope, at[r] + mine.pace(r, at[r]));
+                was[2 * r] = at[r];
+                if (at[r] == NONE) {
+                    was[2 * r + 1] = NONE;
+                    continue;
                 }
+                was[2 * r + 1] = mine.slope - at[r];
+                at[r] = Math.min(mine.slope, at[r] + mine.pace(r, at[r]));
+                now[2 * r] = at[r];
+                now[2 * r + 1] = mine.slope - at[r];
             }
         }
 
         private int harm(Mine mine) {
             int crowd = 0;
             for (int car = 0; car < 2 * mine.ropes; car++) {
-                if (was[car / 2] == NONE) {
+                if (was[car] == NONE) {
                     continue;
                 }
-                int ahead = place(mine, car, was[car / 2]);
-                int now = place(mine, car, at[car / 2]);
-                if (mine.inSiding(now)) {
+                if (mine.inSiding(now[car])) {
                     crowd++;
                 }
-                if (meetsOneUpTo(mine, car, ahead, now)) {
-                    return MEETING;
+                for (int other = 0; other < car; other++) {
+                    if (was[other] != NONE && mine.meet(was[car], now[car], was[other], now[other])) {
+                        return MEETING;
+                    }
                 }
             }
             return crowd > 2 ? CROWD : 0;
-        }
-
-        /** Of each rope the loaded car is the even one. */
-        private static int place(Mine mine, int car, int at) {
-            return car % 2 == 0 ? at : mine.slope - at;
-        }
-
-        /** Whether a car that was ahead and is now meets one of the first cars. */
-        private boolean meetsOneUpTo(Mine mine, int cars, int ahead, int now) {
-            for (int other = 0; other < cars && other < 2 * ROPES; other++) {
-                int otherWas = was[other / 2];
-                if (otherWas != NONE && mine.meet(ahead, now,
-                        place(mine, other, otherWas), place(mine, other, at[other / 2]))) {
-                    return true;
-                }
-            }
-            return false;
         }
 
         private void arrive(Mine mine) {
@@ -793,7 +780,6 @@ public final class SandCars {
 
         private void copy(Cars other) {
             System.arraycopy(other.at, 0, at, 0, ROPES);
-            System.arraycopy(other.was, 0, was, 0, ROPES);
             System.arraycopy(other.left, 0, left, 0, ROPES);
             last = other.last;
         }
@@ -1221,25 +1207,33 @@ public final class SandCars {
             return ore;
         }
 
-        /** The second in which a car of a rope that breaks now meets another rope's. */
+        /** The second in which a car of a rope that breaks now meets another rope's; one that stays at L meets none. */
         private int firstMeeting(Mine mine, Cars now, int rope) {
             cars.copy(now);
             int loaded = cars.at[rope];
             int empty = mine.slope - loaded;
             cars.at[rope] = NONE;
             for (int second = 1; second <= mine.slope; second++) {
-                int loadedWas = loaded;
-                int emptyWas = empty;
-                loaded = Math.min(mine.slope, loaded + LOOSE_PACE);
-                empty = Math.min(mine.slope, empty + LOOSE_PACE);
+                int loadedNow = Math.min(mine.slope, loaded + LOOSE_PACE);
+                int emptyNow = Math.min(mine.slope, empty + LOOSE_PACE);
                 cars.goOn(mine);
-                if (cars.meetsOneUpTo(mine, 2 * mine.ropes, loadedWas, loaded)
-                        || cars.meetsOneUpTo(mine, 2 * mine.ropes, emptyWas, empty)) {
+                if (meetsOne(mine, loaded, loadedNow) || meetsOne(mine, empty, emptyNow)) {
                     return second;
                 }
                 cars.arrive(mine);
+                loaded = loadedNow;
+                empty = emptyNow;
             }
             return NONE;
+        }
+
+        private boolean meetsOne(Mine mine, int was, int now) {
+            for (int car = 0; car < 2 * mine.ropes; car++) {
+                if (cars.was[car] != NONE && mine.meet(was, now, cars.was[car], cars.now[car])) {
+                    return true;
+                }
+            }
+            return false;
         }
     }
 }

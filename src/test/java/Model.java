@@ -393,6 +393,19 @@ final class Model {
     return times.size();
   }
 
+  /** Times that some drawn slips bring, so that rows are found that fit. */
+  List<int[]> drawnTimes(java.util.Random d, int many) {
+    List<int[]> drawn = new ArrayList<>();
+    State s = firstState(facts);
+    while (s.second < 200 && s.harm == 0 && drawn.size() < many) {
+      Gone g = second(facts, s);
+      for (int r : g.started) s.left[r] += d.nextInt(facts.ropes.get(r).slips + 1);
+      if (drawn.size() + g.arrived.size() > many) break;
+      for (int r : g.arrived) drawn.add(new int[] {r, s.second});
+    }
+    return drawn;
+  }
+
   int fitting() {
     Map<String, State> layer = new LinkedHashMap<>();
     Map<String, Long> ways = new HashMap<>();

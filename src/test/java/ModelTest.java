@@ -5,20 +5,38 @@ public final class ModelTest {
   private static final String[] KINDS = {"plain", "men", "water", "runaway"};
   private static final String[] RULES = {"", "", " always", " clear", " clear", " half", " turn"};
   private static final String[] SCRAPS = {"slope", "slope 8", "siding 1", "needs 2;", "fast 7;", "rope", "glass", "slips",
-      "turn", "always", ";", "1234", "0", "007", "99", "X", "\n", "\t", "rope men 5 2 glass 3;", "ropes", "\u00e9", "-"};
+      "turn", "always", ";", "1234", "0", "007", "99", "X", "\n", "\t", "rope men 5 2 glass 3;", "ropes", "\u00e9", "-", "needs 100;", "fast 0;", "siding 4", "glass 31", "slips 4", "needs 3;", "fast 3;", "slope 4;"};
   private static int wrong = 0;
   private static int calls = 0;
-  private static final int[] SEEN = new int[18];
+  /** How often each kind of call had each answer: a look at whether the draws reach what matters. */
+  private static final java.util.Map<String, Integer> SEEN = new java.util.TreeMap<>();
 
   public static void main(String[] args) {
     int runs = args.length > 0 ? Integer.parseInt(args[0]) : 400;
     int from = args.length > 1 ? Integer.parseInt(args[1]) : 0;
     for (int run = from; run < from + runs && wrong < 10; run++) oneRun(run);
+    if (args.length > 2) System.out.println(SEEN);
     System.out.println(calls + " calls, " + wrong + " not as the model's");
     if (wrong != 0) System.exit(1);
   }
 
   static String text(Random d) {
+    return d.nextInt(6) == 0 ? calmText(d) : anyText(d);
+  }
+
+  /** Ropes that mostly wait for one another, so that much can be come to without harm. */
+  private static String calmText(Random d) {
+    StringBuilder t = new StringBuilder();
+    int length = 4 + 2 * d.nextInt(6);
+    t.append("slope ").append(length).append(" siding ").append(Math.min(3, length / 2 - 1)).append(';');
+    for (int r = 0; r < 3; r++) {
+      t.append("rope ").append(KINDS[d.nextInt(4)]).append(" 9 ").append(d.nextInt(9)).append(" glass ").append(1 + d.nextInt(30));
+      t.append(" slips ").append(d.nextInt(4)).append(d.nextInt(20) == 0 ? " turn;" : " clear;");
+    }
+    return t.toString();
+  }
+
+  private static String anyText(Random d) {
     StringBuilder t = new StringBuilder();
     int length = 4 + 2 * d.nextInt(d.nextInt(3) == 0 ? 9 : 5);
     int siding = d.nextInt(5) == 0 ? d.nextInt(Math.min(4, length / 2)) : Math.min(3, length / 2 - 1);
@@ -65,6 +83,8 @@ public final class ModelTest {
         compare(run, log, x, m, 1, new int[] {d.nextInt(20) == 0 ? d.nextInt(420) - 5 : t.length()});
         compare(run, log, x, m, 2, new int[0]);
         i += 2;
+        if (d.nextInt(3) == 0) i += tellTimes(run, log, x, m, d);
+        if (d.nextInt(4) == 0) i += walk(run, log, x, m);
         continue;
       }
       int what = 3 + d.nextInt(15);
@@ -77,6 +97,26 @@ public final class ModelTest {
         i += 42;
       }
     }
+  }
+
+  private static int tellTimes(int run, StringBuilder log, SandCars x, Model m, Random d) {
+    int told = 0;
+    for (int[] t : m.drawnTimes(d, 1 + d.nextInt(8))) {
+      compare(run, log, x, m, 11, t);
+      compare(run, log, x, m, 12, new int[0]);
+      told++;
+    }
+    return 2 * told;
+  }
+
+  /** Second by second, as ropes that move together soon come to harm. */
+  private static int walk(int run, StringBuilder log, SandCars x, Model m) {
+    int steps = 0;
+    for (; steps < 25 && m.count(7) == 0; steps++) {
+      compare(run, log, x, m, 6, new int[] {1});
+      for (int r = 0; r < m.count(2); r++) compare(run, log, x, m, 13, new int[] {r});
+    }
+    return 4 * steps;
   }
 
   private static int[] drawn(Random d, int what) {
@@ -99,10 +139,10 @@ public final class ModelTest {
 
   private static void compare(int run, StringBuilder log, SandCars x, Model m, int what, int[] a) {
     calls++;
-    SEEN[what]++;
     int got = Checks.answer(() -> ofProgram(x, what, a));
     int want = Checks.answer(() -> ofModel(m, what, a));
     String call = "call " + what + java.util.Arrays.toString(a);
+    SEEN.merge(what + (what == 8 ? "/" + a[0] : "") + " " + Math.max(-3, Math.min(want, 3)), 1, Integer::sum);
     log.append(call).append(" = ").append(want).append('\n');
     if (got != want) {
       wrong++;
