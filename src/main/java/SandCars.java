@@ -16,9 +16,7 @@ public final class SandCars {
     private static final int REFUSED_SECONDS = 1;
     private static final int REFUSED_TIMES = 2;
 
-    private final byte[] tape = new byte[TAPE_BYTES];
-    private int tapeLength = 0;
-    private final Reader reader = new Reader(tape);
+    private final Tape tape = new Tape();
     private int faultPlace = NONE;
     private Mine mine = new Mine();
     private Mine spare = new Mine();
@@ -36,32 +34,24 @@ public final class SandCars {
     }
 
     public int feed(int a, int b, int c, int d, int e) {
-        if (tapeLength + FED_BYTES > TAPE_BYTES) {
+        if (tape.held + FED_BYTES > TAPE_BYTES) {
             return NONE;
         }
-        put(a);
-        put(b);
-        put(c);
-        put(d);
-        put(e);
-        return tapeLength;
-    }
-
-    private void put(int number) {
-        for (int shift = 24; shift >= 0 && tapeLength < TAPE_BYTES; shift -= 8) {
-            tape[tapeLength] = (byte) (number >>> shift);
-            tapeLength++;
-        }
+        tape.put(a);
+        tape.put(b);
+        tape.put(c);
+        tape.put(d);
+        tape.put(e);
+        return tape.held;
     }
 
     public int mine(int n) throws IllegalArgumentException {
-        if (n < 0 || n > tapeLength) {
+        if (n < 0 || n > tape.held) {
             throw new IllegalArgumentException("the tape has not so many bytes");
         }
-        tapeLength = 0;
-        int fault = reader.read(n, spare);
+        int fault = tape.read(n, spare);
         if (fault != 0) {
-            faultPlace = reader.place;
+            faultPlace = tape.place;
             day.refused[REFUSED_TEXTS]++;
             return fault;
         }
@@ -105,7 +95,7 @@ public final class SandCars {
             case 10:
                 return day.times;
             case 11:
-                return tapeLength;
+                return tape.held;
             case 12:
                 return day.refused[REFUSED_TEXTS];
             case 13:
@@ -349,8 +339,8 @@ public final class SandCars {
         }
     }
 
-    /** Reads a text as a mine; the first fault along the text ends the reading. */
-    private static final class Reader {
+    /** The tape, which reads its bytes as a mine; the first fault along the text ends the reading. */
+    private static final class Tape {
         private static final int CANNOT_STAND = 1;
         private static final int TOO_MUCH = 2;
         private static final int LATE_SLOPE = 3;
@@ -362,7 +352,8 @@ public final class SandCars {
         private static final int SIGN = 3;
         private static final int OTHER = 4;
 
-        private final byte[] text;
+        private final byte[] text = new byte[TAPE_BYTES];
+        private int held = 0;
         private int length;
         private int token;
         private int from;
@@ -373,13 +364,17 @@ public final class SandCars {
         private boolean needsTold;
         private boolean fastTold;
 
-        private Reader(byte[] text) {
-            this.text = text;
+        private void put(int number) {
+            for (int shift = 24; shift >= 0 && held < TAPE_BYTES; shift -= 8) {
+                text[held] = (byte) (number >>> shift);
+                held++;
+            }
         }
 
-        /** The fault, whose place is kept, or 0. */
+        /** The fault, whose place is kept, or 0; the tape is empty then. */
         private int read(int bytes, Mine mine) {
-            length = Math.min(bytes, text.length);
+            length = Math.min(bytes, held);
+            held = 0;
             behind = 0;
             fault = 0;
             place = NONE;
@@ -877,15 +872,14 @@ public final class SandCars {
             return times == 0 ? 0 : timeSeconds[times - 1];
         }
 
-        /** The ropes, as bits, that are told to arrive at a second. */
-        private int toldAt(int second) {
-            int told = 0;
+        /** Writes down for each second the ropes, as bits, that are told to arrive at its end. */
+        private void tellAll(int[] told) {
+            Arrays.fill(told, 0);
             for (int i = 0; i < times; i++) {
-                if (timeSeconds[i] == second) {
-                    told |= 1 << timeRopes[i];
+                if (timeSeconds[i] < told.length) {
+                    told[timeSeconds[i]] |= 1 << timeRopes[i];
                 }
             }
-            return told;
         }
 
         private void copy(Day other) {
@@ -1059,29 +1053,38 @@ public final class SandCars {
         }
 
         private boolean addStarts(Mine mine, Found found, int second) {
-            for (int bits = 0; bits < 1 << mine.ropes; bits++) {
-                if (mayStart(mine, bits) && !found.add(keyBehind(second, bits))) {
+            int waiting = waiting(mine);
+            long key = keyNow(second);
+            for (int bits = 0; bits <= waiting; bits++) {
+                if ((bits & ~waiting) == 0 && !found.add(key + started(bits))) {
                     return false;
                 }
             }
             return true;
         }
 
-        private boolean mayStart(Mine mine, int bits) {
+        /** The ropes, as bits, that may be started. */
+        private int waiting(Mine mine) {
+            int waiting = 0;
             for (int r = 0; r < mine.ropes; r++) {
-                if ((bits >> r & 1) != 0 && (cars.at[r] != NONE || !mine.strong(r))) {
-                    return false;
+                if (cars.at[r] == NONE && mine.strong(r)) {
+                    waiting |= 1 << r;
                 }
             }
-            return true;
+            return waiting;
         }
 
-        private long keyBehind(int second, int bits) {
-            int places = cars.places();
+        private long keyNow(int second) {
+            return (long) second << PLACE_BITS | cars.places();
+        }
+
+        /** By how much a key grows with the starts of ropes that wait. */
+        private static int started(int bits) {
+            int more = 0;
             for (int r = 0; r < ROPES; r++) {
-                places += (bits >> r & 1) << r * Cars.AT_BITS;
+                more |= (bits >> r & 1) << r * Cars.AT_BITS;
             }
-            return (long) second << PLACE_BITS | places;
+            return more;
         }
 
         /** Of each couple the most ore that can still come, from the last second back to the first. */
@@ -1101,17 +1104,19 @@ public final class SandCars {
         }
 
         private int bestFrom(Mine mine, Found found, int second) {
+            int waiting = waiting(mine);
+            long key = keyNow(second);
             int best = LOST;
-            for (int bits = 0; bits < 1 << mine.ropes; bits++) {
-                if (mayStart(mine, bits)) {
-                    best = Math.max(best, valueBehind(found, second, bits));
+            for (int bits = 0; bits <= waiting; bits++) {
+                if ((bits & ~waiting) == 0) {
+                    best = Math.max(best, valueOf(found, key + started(bits)));
                 }
             }
             return best;
         }
 
-        private int valueBehind(Found found, int second, int bits) {
-            int index = found.indexOf(keyBehind(second, bits));
+        private static int valueOf(Found found, long key) {
+            int index = found.indexOf(key);
             return index < 0 ? LOST : found.values[index];
         }
 
@@ -1121,15 +1126,17 @@ public final class SandCars {
             for (int second = 0; second <= n && second <= PLANNED; second++) {
                 int bits = firstWorth(mine, found, second, rest);
                 starts[second] = bits;
-                roll(mine, keyBehind(second, bits));
+                roll(mine, keyNow(second) + started(bits));
                 rest -= mine.loads(cars.arrived);
             }
             length = n + 1;
         }
 
         private int firstWorth(Mine mine, Found found, int second, int rest) {
-            for (int bits = 0; bits < 1 << mine.ropes; bits++) {
-                if (mayStart(mine, bits) && valueBehind(found, second, bits) == rest) {
+            int waiting = waiting(mine);
+            long key = keyNow(second);
+            for (int bits = 0; bits <= waiting; bits++) {
+                if ((bits & ~waiting) == 0 && valueOf(found, key + started(bits)) == rest) {
                     return bits;
                 }
             }
@@ -1143,46 +1150,46 @@ public final class SandCars {
         private static final int DEEPEST = 40;
 
         private final Cars cars = new Cars();
+        private final int[] told = new int[Day.LAST_SECOND + 1];
+        private int end = 0;
         private int turns = 0;
 
         private int search(Mine mine, Day day) {
+            day.tellAll(told);
+            end = day.lastTime();
             turns = 0;
             cars.first(mine);
-            int rows = rowsFrom(mine, day, cars.key(), 0, 0);
+            int rows = rowsFrom(mine, cars.key(), 0, 0);
             return turns > TURNS ? SPENT : rows;
         }
 
         /** The rows behind a second; a row that arrives otherwise than told is left at once, so few turns are open. */
-        private int rowsFrom(Mine mine, Day day, long key, int second, int depth) {
+        private int rowsFrom(Mine mine, long key, int second, int depth) {
             cars.take(key);
-            int end = day.lastTime();
-            for (int s = second + 1; s <= end; s++) {
-                if (cars.pass(mine) != 0 || cars.arrived != day.toldAt(s)) {
+            for (int s = second + 1; s <= end && s < told.length; s++) {
+                if (cars.pass(mine) != 0 || cars.arrived != told[s]) {
                     return 0;
                 }
                 if (cars.started != 0) {
-                    return rowsByTurns(mine, day, cars.key(), s, cars.started, depth);
+                    return rowsByTurns(mine, cars.key(), s, cars.started, depth);
                 }
             }
             return 1;
         }
 
-        private int rowsByTurns(Mine mine, Day day, long key, int second, int started, int depth) {
+        private int rowsByTurns(Mine mine, long key, int second, int started, int depth) {
             if (depth > DEEPEST) {
                 return 0;
             }
-            int rope = Integer.numberOfTrailingZeros(started);
-            if (rope >= ROPES) {
-                return 0;
-            }
-            int others = started & started - 1;
+            int rope = (started & 1) != 0 ? 0 : (started & 2) != 0 ? 1 : 2;
+            int others = started & ~(1 << rope);
             int rows = 0;
             for (int slip = 0; slip <= mine.slips[rope] && turns <= TURNS; slip++) {
                 turns++;
                 long next = key + slip * Cars.oneLeft(rope);
                 rows += others != 0
-                        ? rowsByTurns(mine, day, next, second, others, depth + 1)
-                        : rowsFrom(mine, day, next, second, depth + 1);
+                        ? rowsByTurns(mine, next, second, others, depth + 1)
+                        : rowsFrom(mine, next, second, depth + 1);
             }
             return rows;
         }
