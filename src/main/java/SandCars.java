@@ -680,7 +680,6 @@ public final class SandCars {
         }
 
         private void arrive(Mine mine) {
-            arrived = 0;
             for (int r = 0; r < mine.ropes; r++) {
                 if (at[r] == mine.slope) {
                     at[r] = NONE;
@@ -1122,7 +1121,6 @@ public final class SandCars {
 
         private void keep(Mine mine, Found found, int n, int most) {
             int rest = most;
-            cars.first(mine);
             for (int second = 0; second <= n && second <= PLANNED; second++) {
                 int bits = firstWorth(mine, found, second, rest);
                 starts[second] = bits;

@@ -74,7 +74,7 @@ public final class ModelTest {
     Model m = new Model();
     StringBuilder log = new StringBuilder();
     for (int i = 0; i < 500 && wrong < 10; ) {
-      if (i == 0 || d.nextInt(60) == 0) {
+      if (i == 0 || d.nextInt(25) == 0) {
         String t = text(d);
         if (d.nextInt(5) == 0) t = spoilt(d, t);
         log.append("text ").append(t).append('\n');

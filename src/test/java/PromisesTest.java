@@ -118,6 +118,11 @@ public final class PromisesTest {
     C.due("a mine", Checks.mine(x, ""), 0);
     C.due("safety anew", x.safe(1), -1);
     C.due("no ropes", x.count(2), 0);
+    C.due("a mine", Checks.mine(x, "rope men 3 1 glass 4 slips 2 turn;"), 0);
+    C.due("a mine", Checks.mine(x, "slope 8 siding 2;needs 4;fast 5;rope men 3 1 glass 4 slips 3 half;"), 0);
+    C.due("a mine", Checks.mine(x, "rope men 3 1 glass 4;"), 0);
+    counts("nothing of earlier mines", x, 0, 4, 0, 1, 1, 99);
+    ropes("nothing of earlier mines", x, 0, 2, 4, 0, 0);
   }
 
   private static void bad(String text, int code, int place) {
@@ -140,6 +145,12 @@ public final class PromisesTest {
     bad("slope 8 siding;", 1, 14);
     bad("slope 8 sidings 1;", 1, 8);
     bad("slopes 8;", 1, 0);
+    bad("slopez 8;", 1, 0);
+    bad("slopea 8;", 1, 0);
+    bad("slope`8;", 1, 5);
+    bad("slope{8;", 1, 5);
+    bad("slope 8/", 1, 7);
+    bad("slope 8:", 1, 7);
     bad("Slope 8;", 1, 0);
     bad("slope\t8;", 1, 5);
     bad("slope 8;\r", 1, 8);
@@ -408,6 +419,13 @@ public final class PromisesTest {
         + "rope plain 8 5 glass 5 slips 3 clear;", -2, -2, -2);
     safes("slope 6 siding 2;fast 5;rope runaway 21 15 glass 22 clear;rope plain 11 4 glass 22 slips 3 clear;"
         + "rope water 20 10 glass 23 clear;", 1, -1, 4000);
+    SandCars twice = C.made("slope 6 siding 2;fast 18;rope runaway 18 17 glass 29 slips 2 clear;"
+        + "rope plain 4 1 glass 19 slips 2 clear;rope plain 8 5 glass 5 slips 3 clear;");
+    C.due("spent", twice.safe(0), -2);
+    Checks.mine(twice, ONE);
+    C.due("not spent", twice.safe(0), 1);
+    Checks.mine(twice, CRASH);
+    C.due("another mine", twice.safe(1), 4);
     // 4001 states: spent, though there is harm
     safes("slope 8 siding 1;fast 11;rope plain 16 14 glass 21 slips 2;rope plain 11 7 glass 27 slips 2 clear;"
         + "rope runaway 19 15 glass 29 slips 2 clear;", -2, -2, -2);
@@ -516,6 +534,19 @@ public final class PromisesTest {
     C.due("5460 turns", fits(wide, 0, 5, 0, 9, 0, 13, 0, 17, 0, 21), 4096);
     C.due("21844 turns", fits(wide, 0, 5, 0, 9, 0, 13, 0, 17, 0, 21, 0, 25), -2);
     C.due("spent, though none fits", fits(wide, 0, 5, 0, 9, 0, 13, 0, 17, 0, 21, 0, 25, 0, 30), -2);
+    C.due("without times there is no second", fits(wide), 1);
+    SandCars again = C.made(wide);
+    for (int i = 0; i < 5; i++) again.time(0, 5 + 4 * i);
+    for (int i = 0; i < 5; i++) C.due("turns are counted anew", again.fitting(), 4096);
+    Checks.mine(again, wide);
+    again.time(0, 5);
+    C.due("another mine's times", again.fitting(), 16);
+    again.image();
+    again.time(0, 9);
+    C.due("two times", again.fitting(), 64);
+    again.restore();
+    again.time(0, 12);
+    C.due("as in the image, and one that doesn't fit", again.fitting(), 0);
     C.due("left before it is spent", fits(wide, 0, 5, 0, 9, 0, 13, 0, 17, 0, 22, 0, 30, 0, 40, 0, 50), 0);
   }
 
@@ -542,6 +573,8 @@ public final class PromisesTest {
     // rope 0's loaded car, 4 7 10 13, and rope 1's empty one, 20 19 18 17 16 15: 16 and 16 in the 4th;
     // rope 0's empty car, 16 19, and rope 1's empty one, 20 19: both at 19 in the 1st
     C.due("back into the one that follows", broken(long20, 5, 0), 1);
+    // rope 0 at 6: its empty car, 14 17 20, goes past rope 1's, 20 19 18, in the 2nd
+    C.due("back past the one that follows", broken("slope 20 siding 1;rope men 9 4 glass 1;rope men 7 2 glass 7;", 7, 0), 2);
     // rope 1's loaded car, 0 3 6, and rope 0's loaded one, 4 5 6: both at 6 in the 2nd
     C.due("on into the one ahead", broken(long20, 5, 1), 2);
     // rope 0 at 9 (empty 11), rope 1 at 0: 9 12 15 18 20 against 20 19 18 17 in the 3rd; 11 14 17 20 against 18: in the 3rd too
@@ -605,6 +638,7 @@ public final class PromisesTest {
     C.due("the plan is no part of it", x.plan(0), 0);
     C.due("undo as in the image", x.undo(9), 7);
     ropes("undone", x, 0, 5, -1, 2, 1, 0);
+    counts("undone", x, 5, 0, 0, 0, -1, 0);
     C.due("times as in the image", x.fitting(), 4);
     C.due("restore again", x.restore(), true);
     counts("as the image again", x, 5, 7, 9, 0, 0, 7);
