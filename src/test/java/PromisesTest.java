@@ -534,6 +534,10 @@ public final class PromisesTest {
     C.due("5460 turns", fits(wide, 0, 5, 0, 9, 0, 13, 0, 17, 0, 21), 4096);
     C.due("21844 turns", fits(wide, 0, 5, 0, 9, 0, 13, 0, 17, 0, 21, 0, 25), -2);
     C.due("spent, though none fits", fits(wide, 0, 5, 0, 9, 0, 13, 0, 17, 0, 21, 0, 25, 0, 30), -2);
+    C.due("19963 turns", fits("slope 6 siding 1;rope water 9 1 glass 8 slips 3 clear;rope men 9 1 glass 11 slips 2 clear;"
+        + "rope water 9 1 glass 22 slips 2 clear;", 0, 12, 1, 18, 0, 22, 2, 26, 1, 32, 0, 36, 1, 45, 0, 49) > 0, true);
+    C.due("20004 turns", fits("slope 8 siding 2;rope men 9 1 glass 26 slips 3 clear;rope runaway 9 1 glass 12 slips 2 clear;"
+        + "rope water 9 1 glass 6 slips 3 clear;", 2, 12, 1, 18, 2, 24, 1, 30, 0, 38, 1, 44, 2, 50, 1, 56), -2);
     C.due("without times there is no second", fits(wide), 1);
     SandCars again = C.made(wide);
     for (int i = 0; i < 5; i++) again.time(0, 5 + 4 * i);
