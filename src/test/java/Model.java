@@ -387,7 +387,7 @@ final class Model {
   int time(int rope, int second) {
     ropeOf(rope);
     int[] last = times.isEmpty() ? new int[] {-1, 0} : times.get(times.size() - 1);
-    boolean ordered = second * 10 + rope > last[1] * 10 + last[0];
+    boolean ordered = second * 10L + rope > last[1] * 10L + last[0];
     if (times.size() == 8 || second < 1 || second > 200 || !ordered) { status[2]++; return -1; }
     times.add(new int[] {rope, second});
     return times.size();

@@ -6,6 +6,7 @@ public final class ModelTest {
   private static final String[] RULES = {"", "", " always", " clear", " clear", " half", " turn"};
   private static final String[] SCRAPS = {"slope", "slope 8", "siding 1", "needs 2;", "fast 7;", "rope", "glass", "slips",
       "turn", "always", ";", "1234", "0", "007", "99", "X", "\n", "\t", "rope men 5 2 glass 3;", "ropes", "\u00e9", "-", "needs 100;", "fast 0;", "siding 4", "glass 31", "slips 4", "needs 3;", "fast 3;", "slope 4;"};
+  private static final int[] EXTREMES = {Integer.MIN_VALUE, Integer.MAX_VALUE, Integer.MIN_VALUE + 1, -1000, 1000, 1 << 30};
   private static int wrong = 0;
   private static int calls = 0;
   /** How often each kind of call had each answer: a look at whether the draws reach what matters. */
@@ -89,7 +90,9 @@ public final class ModelTest {
       }
       int what = 3 + d.nextInt(15);
       if (what == 5 && d.nextBoolean()) what = 6;
-      compare(run, log, x, m, what, drawn(d, what));
+      int[] with = drawn(d, what);
+      if (with.length > 0 && d.nextInt(40) == 0) with[d.nextInt(with.length)] = EXTREMES[d.nextInt(EXTREMES.length)];
+      compare(run, log, x, m, what, with);
       i++;
       if (d.nextInt(3) == 0) {
         for (int k = 0; k < 15; k++) compare(run, log, x, m, 3, new int[] {k});
