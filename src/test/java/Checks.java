@@ -6,6 +6,8 @@ import java.util.function.IntSupplier;
 final class Checks {
   static final int ILLEGAL = -1001;
   static final int NO_SUCH = -1002;
+  /** Where look() has fault(). */
+  static final int FAULT = 15;
   private int wrong = 0;
   private int made = 0;
 
@@ -57,6 +59,24 @@ final class Checks {
   static int mine(SandCars x, String text) {
     put(x, text);
     return x.mine(text.length());
+  }
+
+  /** All that count(), fault() and rope() tell of an object: count(i) at i. */
+  static int[] look(SandCars x) {
+    int ropes = x.count(2);
+    int[] seen = new int[FAULT + 1 + 9 * ropes];
+    for (int i = 0; i < FAULT; i++) seen[i] = x.count(i);
+    seen[FAULT] = x.fault();
+    for (int i = 0; i < 9 * ropes; i++) seen[FAULT + 1 + i] = x.rope(i / 9, i % 9);
+    return seen;
+  }
+
+  void same(String what, int[] want, int[] got) {
+    due(what + ": how many", got.length, want.length);
+    for (int i = 0; i < want.length && i < got.length; i++) {
+      int r = i - FAULT - 1;
+      due(what + ": " + (r >= 0 ? "rope(" + r / 9 + ", " + r % 9 + ")" : i == FAULT ? "fault" : "count(" + i + ")"), got[i], want[i]);
+    }
   }
 
   /** A new object with a mine. */
