@@ -269,6 +269,14 @@ public final class KeptEdgesTest {
     x.restore();
     C.due("one TIME", x.count(10), 1);
     C.due("FITTING it", x.fitting(), rows);
+    C.due("rows that fit", rows > 0, true);
+    x.time(1, 12);
+    C.due("none fits", x.fitting(), 0);
+    x.restore();
+    C.due("FITTING it", x.fitting(), rows);
+    x.time(1, 11);
+    C.due("rope 1 down in the 11th", x.fitting() > 0, true);
+    x.restore();
     C.due("not in order", x.time(0, 7), SandCars.NONE);
     C.due("in order", x.time(1, 7), 2);
     for (int i = 3; i <= 8; i++) x.time(0, 10 + i);

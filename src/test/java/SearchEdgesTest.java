@@ -45,6 +45,7 @@ public final class SearchEdgesTest {
     worthOfHowManySeconds();
     harmEndsBoth();
     askingChangesNothing();
+    askedInTurns();
     C.end();
   }
 
@@ -504,5 +505,34 @@ public final class SearchEdgesTest {
     x.plan(0);
     C.same("nothing changes", before, Checks.look(x));
     C.due("undo", x.undo(9), 9);
+  }
+
+  // Each answer is for itself: none leaves less for the next, not even one that was SPENT.
+  private static void askedInTurns() {
+    SandCars x = C.made("slope 4 siding 1;rope men 9 1 glass 21 slips 2 clear;rope men 9 1 glass 2 slips 3 clear;"
+        + "rope men 9 1 glass 12 slips 1 clear;");
+    int[] times = {1, 6, 1, 10, 1, 15, 1, 19, 1, 23, 0, 27, 1, 31, 1, 35};
+    for (int i = 0; i < times.length; i += 2) x.time(times[i], times[i + 1]);
+    int safe = x.safe(2);
+    int most = x.most(20);
+    C.due("one every four seconds", most, 45);
+    for (int i = 0; i < 5; i++) {
+      C.due("20000 turns again", x.fitting(), ROWS);
+      C.due("couples again", x.most(20), most);
+      C.due("STATES again", x.safe(2), safe);
+      C.due("more", x.most(60), 135);
+      C.due("few", x.most(3), 0);
+    }
+    SandCars z = C.made("slope 16 siding 3;rope men 9 0 glass 26;rope runaway 9 0 glass 10;");
+    for (int i = 0; i < 3; i++) {
+      C.due("4000 couples again", z.most(39), 27);
+      C.due("spent", z.most(40), SPENT);
+      C.due("few", z.most(11), 9);
+    }
+    SandCars y = C.made(MUCH);
+    for (int i = 0; i < 3; i++) {
+      C.due("spent", y.safe(i), SPENT);
+      C.due("not spent", y.most(0), 0);
+    }
   }
 }

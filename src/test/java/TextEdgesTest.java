@@ -35,6 +35,7 @@ public final class TextEdgesTest {
     moreThanTheTapeHas();
     allStaysWithAFault();
     allIsAnewWithoutOne();
+    nothingOfEarlierMines();
     faultOfTheLatestMine();
     C.end();
   }
@@ -426,6 +427,27 @@ public final class TextEdgesTest {
       C.due("nothing can be UNDONE", x.undo(1), 0);
       C.due("no TIMES", x.fitting(), 1);
       C.due("seconds go by again", x.on(1), 1);
+    }
+  }
+
+  // All anew: also what the text leaves out, what was searched for, and the ORE.
+  private static void nothingOfEarlierMines() {
+    String much = "slope 20 siding 3;needs 9;fast 9;rope plain 30 1 glass 30 slips 3 turn;rope men 30 1 glass 29 slips 2 clear;"
+        + "rope water 30 1 glass 28 slips 1 half;";
+    String spent = "slope 6 siding 2;rope runaway 9 8 glass 29 slips 3 clear;rope plain 9 8 glass 19 slips 3 clear;"
+        + "rope plain 9 8 glass 5 slips 3 clear;";
+    String[] texts = {much, ROPE, much, "", spent, "slope 4 siding 1;" + ROPE, spent, much, "slope 6;" + ROPE, ROPE + ROPE, ROPE};
+    SandCars x = new SandCars();
+    for (String text : texts) {
+      C.due("mine of " + text, Checks.mine(x, text), 0);
+      SandCars y = C.made(text);
+      C.same("as in a new object: " + text, Checks.look(y), Checks.look(x));
+      for (int what = 0; what < 3; what++) C.due("SAFE of " + text, x.safe(what), y.safe(what));
+      C.due("THE MOST ORE of " + text, x.most(4), y.most(4));
+      C.due("on of " + text, x.on(100), y.on(100));
+      C.same("on in " + text, Checks.look(y), Checks.look(x));
+      if (x.count(2) > 0) C.due("a TIME", x.time(0, 9), 1);
+      x.image();
     }
   }
 
